@@ -823,14 +823,14 @@ public final class PencilUp {
             value = 0;
             if (at >= size) {
                 kind = END;
-            } else if (isSmall(bytes[at])) {
+            } else if (bytes[at] >= 'a' && bytes[at] <= 'z') {
                 kind = NAME;
-                while (at < size && isSmall(bytes[at])) {
+                while (at < size && bytes[at] >= 'a' && bytes[at] <= 'z') {
                     at++;
                 }
-            } else if (isDigit(bytes[at])) {
+            } else if (bytes[at] >= '0' && bytes[at] <= '9') {
                 kind = NUMBER;
-                while (at < size && isDigit(bytes[at])) {
+                while (at < size && bytes[at] >= '0' && bytes[at] <= '9') {
                     value = at - from < MOST_DIGITS ? value * 10 + bytes[at] - '0' : NONE;
                     at++;
                 }
@@ -840,14 +840,6 @@ public final class PencilUp {
                 at++;
             }
             to = at;
-        }
-
-        boolean isSmall(int sign) {
-            return sign >= 'a' && sign <= 'z';
-        }
-
-        boolean isDigit(int sign) {
-            return sign >= '0' && sign <= '9';
         }
 
         boolean isName(String name) {

@@ -110,6 +110,7 @@ public final class PromisesTest {
         CHECK.fails("4: a 13th text that is wrong", NONE_SUCH, () -> x.evening());
         is("6: its fault", 6, x.fault());
         is("58: texts", 12, x.count(2));
+        is("4: the least numbers", 0, Check.evening("minute 7;minute 0;slip 7;slip 0;writer speed 1 skill 0 tired 0").count(8));
         PencilUp y = Check.evening("tempo 1;".repeat(13) + "tempo 2");
         is("4: 14 lines", 2, y.count(6));
     }
@@ -161,6 +162,9 @@ public final class PromisesTest {
         wrongEvening(x, "word ab often 100", 14);
         wrongEvening(x, "writer", 6);
         wrongEvening(x, "writer 4", 7);
+        wrongEvening(x, "writer speed", 12);
+        wrongEvening(x, "writer speed 1 skill", 20);
+        wrongEvening(x, "writer speed 1 tired", 20);
         wrongEvening(x, "writer speed 0", 13);
         wrongEvening(x, "writer speed 10", 13);
         wrongEvening(x, "writer speed 1 skill 10", 21);
@@ -584,7 +588,14 @@ public final class PromisesTest {
         is("33: ask of nothing told", 0, ask(x));
         is("33: ask: abc has 2 always, ab 2 or 1", 1, ask(x, 0, 2));
         is("33: none", -1, ask(x, 0, 3, 3, 0));
+        PencilUp all = Check.evening("word abcdef often 1;word gh often 1");
+        is("32: one set", 1, hand(all, false, 0, 6, 1, 2));
+        is("32: one set", 0, hand(all, true, 0, 6, 1, 2));
+        is("32: the greatest set", 255, hand(all, true, 0, 0, 1, 0));
         is("33: one set", -1, ask(Check.evening("word abcdef often 1;word gh often 1"), 0, 6, 1, 2));
+        is("33: two sets that none parts: the least", 0, ask(Check.evening("word abcdef often 1;word gh often 1"), 0, 6, 1, 1));
+        is("33: two sets that one word parts", 2,
+            ask(Check.evening("word abcdef often 1;word gh often 1;word gg often 1"), 0, 6, 1, 1));
         is("33: without words", -1, ask(new PencilUp()));
         is("34: whose of nothing told", 3, whose(x));
         is("34: whose", 1, whose(x, 0, 2));
