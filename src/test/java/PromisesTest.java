@@ -304,6 +304,8 @@ public final class PromisesTest {
         is("48: silent", 0xf8, x.silent());
         is("46: twins", 1, x.twins());
         is("46: each as often", 0, Check.evening("word aab often 1;word abb often 1;word ab often 1").twins());
+        is("46: many of one letter are none of another", 0,
+            Check.evening("word hhhh often 1;word b often 1;word aa often 1;word hhhhhh often 1;word ba often 1;word hhhha often 1").twins());
         is("46: three of them", 3, Check.evening("word hhhhhg often 1;word hghhhh often 1;word ghhhhh often 1").twins());
     }
 
