@@ -141,6 +141,17 @@ public final class EdgesActsTest {
         Edges.is("the writer's own are as they are", 66 - 2 - 15, x.writer(0, 3));
     }
 
+    private static void p18_nothingOfTheLastWordStaysInAWordOfNothing() {
+        PencilUp x = Check.evening("word abc often 1;writer speed 9;speech 0;tempo 9",
+            "tire 90;rest 1 if strokes>0;rest 2 if letters>0;rest 4 if kept;rest 8 if sure;rest 16 if word<8");
+        x.minutes(2);
+        Edges.is(93 - 2, x.writer(0, 3));
+        Edges.is(93 - 2 * 3, x.ahead(0, 2));
+        x.keepsUp(0, 0);
+        x.minutes(1);
+        Edges.is(93 - 2 * 2, x.writer(0, 3));
+    }
+
     private static void p18_aWordOfNothingIsWord8AlsoBesideEightWords() {
         PencilUp x = full();
         Edges.more(x, "minute 3;tempo 3");

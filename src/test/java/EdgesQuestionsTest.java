@@ -36,6 +36,13 @@ public final class EdgesQuestionsTest {
         Edges.is(127, Check.evening(EIGHT).keep());
     }
 
+    private static void p26_allEight() {
+        String text = "word ab often 1;word ba often 1;word cd often 1;word dc often 1;word ef often 1;word fe often 1;word gh often 1";
+        // Without hg, gh may be nothing; each of the other pairs needs both of its letters.
+        Edges.is(63, Check.evening(text).keep());
+        Edges.is(255, Check.evening(text + ";word hg often 1").keep());
+    }
+
     private static void p26_changesNothing() {
         Edges.changesNothing(PencilUp::keep);
     }
@@ -122,6 +129,17 @@ public final class EdgesQuestionsTest {
         }
         Edges.is(together, x.codes());
         Edges.is("none of the room is left", 128, room);
+    }
+
+    private static void p28_nothingIsLeftOfMoreWords() {
+        PencilUp x = Check.evening("word a often 7;word b often 2");
+        x.image();
+        Edges.more(x, "word c often 99;word d often 50;word e often 1");
+        Edges.is(99 + 2 * 50 + 3 * 7 + 4 * 3, x.codes());
+        x.back();
+        Edges.is(9, x.codes());
+        Edges.is(1, x.word(0, 2));
+        Edges.is(1, x.word(1, 2));
     }
 
     private static void p28_changesNothing() {
@@ -246,6 +264,13 @@ public final class EdgesQuestionsTest {
         Edges.is(0, asked(Check.evening("word abcdef often 1;word bbcdef often 1"), PencilUp::look));
         Edges.is("of several the least", 2, asked(Check.evening("word abcdef often 1;word abdeff often 1"), PencilUp::look));
         Edges.is("where none is parted", 0, asked(Check.evening("word ab often 1;word ab often 1"), PencilUp::look));
+    }
+
+    private static void p31_allEightAlike() {
+        PencilUp x = Check.evening("word ab often 1;".repeat(7) + "word ab often 1");
+        Edges.is(0, asked(x, PencilUp::look));
+        PencilUp y = Check.evening("word ab often 1;".repeat(7) + "word ac often 1");
+        Edges.is(1, asked(y, PencilUp::look));
     }
 
     private static void p31_nothingIsALetterToo() {
@@ -456,6 +481,17 @@ public final class EdgesQuestionsTest {
         }
     }
 
+    private static void p37_nothingIsLeftOfWordsComparedBefore() {
+        Edges.is(2, Check.evening("word c often 1;word ab often 1").change(0, 1));
+        Edges.is(6, Check.evening("word h often 1;word abcdef often 1").change(0, 1));
+        Edges.is(6, Check.evening("word h often 1;word abcdef often 1").change(1, 0));
+        PencilUp x = Check.evening("word h often 1;word abcdef often 1;word abcdeg often 1;word cd often 1");
+        Edges.is(1, x.change(1, 2));
+        Edges.is(6, x.change(0, 1));
+        Edges.is(2, x.change(0, 3));
+        Edges.is(4, x.change(3, 1));
+    }
+
     private static void p37_noSuchWord() {
         PencilUp x = Check.evening(EIGHT);
         Edges.is(1, x.change(7, 0));
@@ -590,6 +626,18 @@ public final class EdgesQuestionsTest {
         }
     }
 
+    private static void p40_fiveWriters() {
+        PencilUp x = Check.evening("writer speed 1;writer speed 2;writer speed 3;writer speed 4;writer speed 5");
+        // The claims 5, 4, 3, 2 2 2 (of 1, 3, 4), then 1 as often as the speed allows; 0 goes to the least.
+        int[][] wants = {{1, 0, 0, 0, 0, 1}, {2, 0, 0, 0, 1, 1}, {3, 0, 0, 1, 1, 1}, {4, 0, 1, 1, 1, 1}, {5, 0, 1, 1, 2, 1}, {6, 0, 1, 1, 2, 2},
+            {7, 1, 1, 1, 2, 2}, {8, 1, 2, 1, 2, 2}, {99, 85, 2, 3, 4, 5}};
+        for (int[] want : wants) {
+            for (int k = 0; k < 5; k++) {
+                Edges.is(want[0] + " pages, writer " + k, want[k + 1], x.pages(k, want[0]));
+            }
+        }
+    }
+
     private static void p40_oneAloneHasAll() {
         Edges.is(99, Check.evening("writer speed 1").pages(0, 99));
     }
@@ -694,6 +742,14 @@ public final class EdgesQuestionsTest {
         Edges.is("9801.0, 9702.99, 9605.. each rounded down", 9604, x.odds(0, 0, 4));
     }
 
+    private static void p43_ofThatWriterAndThatWord() {
+        PencilUp x = Check.evening("word a often 1;word b often 1;writer speed 1;writer speed 1", "slip 10 if writer<1;slip 20 if word<1");
+        Edges.is(7000, x.odds(0, 0, 1));
+        Edges.is(9000, x.odds(0, 1, 1));
+        Edges.is(8000, x.odds(1, 0, 1));
+        Edges.is(10000, x.odds(1, 1, 1));
+    }
+
     private static void p43_refusedChangesNothing() {
         for (int wrong : Edges.NOWHERE) {
             PencilUp x = Edges.rich();
@@ -754,6 +810,21 @@ public final class EdgesQuestionsTest {
         Edges.is(0, Check.evening("word aabbcc often 1;word abbbcc often 1").twins());
         Edges.is(0, Check.evening("word aa often 1;word a often 1").twins());
         Edges.is(0, Check.evening("word hhhhhh often 1;word hhhhh often 1").twins());
+    }
+
+    private static void p46_manyOfOneLetterAreNoneOfAnother() {
+        for (int first = 0; first < 48; first++) {
+            for (int second = first + 1; second < 48; second++) {
+                String text = "word " + oneLetter(first) + " often 1;word " + oneLetter(second) + " often 1";
+                Edges.is(text, 0, Check.evening(text).twins());
+            }
+        }
+        Edges.is(0, Check.evening("word agggg often 1;word a often 1;word bhhhh often 1;word bb often 1;word hhhha often 1;word ab often 1").twins());
+    }
+
+    /** One to six of one of the eight letters. */
+    private static String oneLetter(int k) {
+        return Character.toString((char) ('a' + k / 6)).repeat(1 + k % 6);
     }
 
     // ---- 47, 48: letters of words ----

@@ -519,6 +519,20 @@ public final class EdgesTextsTest {
         Edges.wrongEvening("writer ^speeds 1");
     }
 
+    private static void p04_everyLetterOfAWordCounts() {
+        String[] texts = {"^word a often 1", "word a ^often 1", "^writer speed 1", "writer ^speed 1", "writer speed 1 ^skill 1",
+            "writer speed 1 ^tired 1", "writer speed 1 ^leaves a", "word a often 1;^speech 0", "^tempo 1", "^slip 1", "^minute 1"};
+        for (String text : texts) {
+            int at = text.indexOf('^');
+            Edges.is(1, Check.evening(text.replace("^", "")).count(2));
+            for (int k = at + 1; k < text.length() && text.charAt(k) != ' '; k++) {
+                char other = text.charAt(k) == 'z' ? 'y' : 'z';
+                Edges.wrongEvening(text.substring(0, k) + other + text.substring(k + 1));
+                Edges.wrongEvening(text.substring(0, k) + text.substring(k + 1));
+            }
+        }
+    }
+
     private static void p04_blanksMayStandBetweenAllAheadAndBehind() {
         PencilUp x = Check.evening("   word   ab   often   5   ;   writer   speed   2   skill   3   tired   4   leaves   b   ;   speech   0   0   ;   tempo   6   ");
         Edges.is(2, x.word(0, 0));
@@ -769,6 +783,20 @@ public final class EdgesTextsTest {
         Edges.wrongLaw("slip 1 if ^notkept");
         Edges.wrongLaw("slip 1 if 1<2 ^andkept");
         Edges.wrongLaw("slip 1 ^ifkept");
+    }
+
+    private static void p05_everyLetterOfAWordCounts() {
+        String[] texts = {"^tire 1", "^rest 1", "^slip 1", "slip 1 ^if kept", "slip 1 if ^kept", "slip 1 if ^sure", "slip 1 if ^not kept",
+            "slip 1 if kept ^and kept", "slip 1 if kept ^or kept", "slip 1 if ^writer<1", "slip 1 if ^word<1", "slip 1 if ^strokes<1",
+            "slip 1 if ^letters<1", "slip 1 if ^speed<1", "slip 1 if ^skill<1", "slip 1 if ^tired<1"};
+        for (String text : texts) {
+            int at = text.indexOf('^');
+            Edges.is(1, Edges.readLaw(new PencilUp(), text.replace("^", "")));
+            for (int k = at + 1; k < text.length() && text.charAt(k) >= 'a'; k++) {
+                Edges.wrongLaw(text.substring(0, k) + 'z' + text.substring(k + 1));
+                Edges.wrongLaw(text.substring(0, k) + text.substring(k + 1));
+            }
+        }
     }
 
     private static void p05_aConditionThatFillsTheTape() {

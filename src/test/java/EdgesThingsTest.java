@@ -277,6 +277,18 @@ public final class EdgesThingsTest {
         Edges.is(20, x.writer(0, 12));
     }
 
+    private static void p09_aRunOfAll20IsNotTheNextWritersToo() {
+        PencilUp x = Check.evening("word a often 1;writer speed 9;writer speed 9;writer speed 9;writer speed 9;writer speed 9;"
+            + "speech 0 0 0 0 0 0;speech 0 0 0 0 0 0;speech 0 0 0 0 0 0;speech 0 0");
+        x.minutes(20);
+        for (int k = 0; k < 5; k++) {
+            Edges.is(20, x.writer(k, 10));
+            Edges.is(0, x.writer(k, 11));
+            Edges.is(20, x.writer(k, 12));
+            Edges.is(20, x.writer(k, 13));
+        }
+    }
+
     private static void p09_slippedOnesAreGapsAndNotTrue() {
         PencilUp x = Check.evening("word a often 1;writer speed 9;speech 0 0;slip 100");
         x.minutes(2);
@@ -482,6 +494,21 @@ public final class EdgesThingsTest {
         Edges.is(1, x.alike(0, 0));
         Edges.is(6, x.alike(0, 1));
         Edges.is(8, x.alike(0, 3));
+    }
+
+    private static void p14_noLetterIsTakenForTwoOthers() {
+        for (char last = 'a'; last <= 'h'; last++) {
+            PencilUp x = Check.evening("word a often 1;word b often 1;word c often 1;word h often 1;".replace("word " + last + " often 1;", "")
+                + "word " + last + " often 1;word a" + last + " often 1;word b" + last + " often 1;word h" + last + " often 1;writer speed 1");
+            int words = x.count(0);
+            for (int word = 0; word < words; word++) {
+                Edges.is("by " + last, 1 << word, x.alike(0, word));
+            }
+        }
+        PencilUp six = Check.evening("word hhhhhh often 1;word ahhhhh often 1;word hhhhh often 1;word aaaaaa often 1;word gggggg often 1;writer speed 1");
+        for (int word = 0; word < 5; word++) {
+            Edges.is(1 << word, six.alike(0, word));
+        }
     }
 
     private static void p14_noSuchWriterOrWord() {
